@@ -608,10 +608,8 @@ public final class LeastPopulations {
             System.arraycopy(other.parents, 0, parents, 0, classes);
             System.arraycopy(other.wants, 0, wants, 0, classes);
             System.arraycopy(other.held, 0, held, 0, classes);
+            System.arraycopy(other.sizes, 0, sizes, 0, classes);
             System.arraycopy(other.rows, 0, rows, 0, ROW * links);
-            for (int which = 0; which < classes; which++) {
-                sizes[which] = other.sizes[which];
-            }
         }
 
         boolean hasClass(int which) {

@@ -49,17 +49,9 @@ public final class ClassesTest {
         addedAgain();
     }
 
+    /** A class has the values of a new one also where another class was before. */
     private static void addedAgain() {
-        LeastPopulations x = Make.classes(2);
-        x.setParent(1, 0);
-        x.want(1, 3);
-        x.hold(1, 4);
-        x.setSize(1, LARGEST);
-        for (int done = 0; done < 4; done++) {
-            x.undo();
-        }
-        x.undo();
-        x = Make.classes(1);
+        LeastPopulations x = Make.classes(1);
         x.keep();
         x.addClass();
         x.setParent(1, 0);

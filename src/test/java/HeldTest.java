@@ -7,6 +7,7 @@ public final class HeldTest {
         promise10();
         promise25();
         promise26();
+        rulesOfLinks();
         promise27();
         allPairs();
         promise28();
@@ -40,6 +41,12 @@ public final class HeldTest {
         Check.due("hold(2, 0), too few for the child", x.hold(2, 0), 42);
         Check.due("undo()", x.undo(), 3);
         Check.due("classTold(2, 3)", x.classTold(2, 3), 98);
+        x = Make.classes(8);
+        x.want(7, 5);
+        Check.due("hold(7, 4)", x.hold(7, 4), 57);
+        x.setParent(6, 7);
+        Check.due("hold(6, 5)", x.hold(6, 5), 47);
+        Check.due("hold(7, 5)", x.hold(7, 5), 99);
         x = Make.diagram(2, "0:0..*-1:20..*");
         Check.due("hold(0, 1000)", x.hold(0, 1000), 0);
         Check.due("hold(1, 19)", x.hold(1, 19), 2);
@@ -144,6 +151,31 @@ public final class HeldTest {
         Check.due("joined(0, 0, 0), no pairs", x.joined(0, 0, 0), 0);
     }
 
+    /** Each rule of a link can be the one that is not kept, and the rules of other links do not count. */
+    private static void rulesOfLinks() {
+        LeastPopulations x = Make.diagram(2, "0:0..*-1:0..*", "0:0..*-1:0..*", "0:0..*-1:0..*");
+        int[][] faults = {{2, 2, 0, 1, 2, 99}, {2, 2, 2, 99, 0, 1}, {2, 2, 0, 99, 3, 99}, {2, 2, 3, 99, 0, 99}};
+        for (int link = 0; link < 3; link++) {
+            for (int rule = 0; rule < 4; rule++) {
+                int[] fault = faults[rule];
+                Make.hold(x, fault[0], fault[1]);
+                x.setCounts(link, 0, fault[2], fault[3]);
+                x.setCounts(link, 1, fault[4], fault[5]);
+                String told = "link " + link + ", rule " + rule + ": ";
+                for (int other = 0; other < 3; other++) {
+                    int due = other == link ? -4 : 0;
+                    Check.due(told + "joined(" + other + ", 1, 0)", x.joined(other, 1, 0), due);
+                    Check.due(told + "degree(" + other + ", 0, 1)", x.degree(other, 0, 1), due);
+                    float average = other == link ? Float.NaN : 0.0f;
+                    Check.dueFloat(told + "average(" + other + ", 0)", x.average(other, 0), average);
+                }
+                Check.due(told + "count(4)", x.count(4), 4 * link + rule);
+            }
+            x.setCounts(link, 0, 0, 99);
+            x.setCounts(link, 1, 0, 99);
+        }
+    }
+
     private static void promise27() {
         LeastPopulations x = Make.diagram(3, "0:2..*-1:1..9", "1:0..*-2:0..*");
         Make.hold(x, 5, 7);
@@ -172,8 +204,8 @@ public final class HeldTest {
         Check.due("degree(0, 1, 0), none at the other end", x.degree(0, 1, 0), 0);
         x = Make.diagram(1, "0:1..2-0:2..2");
         x.hold(0, 3);
-        Check.due("degree(0, 0, 2), not kept", x.degree(0, 0, 2), 2);
-        Check.due("degree(0, 1, 2)", x.degree(0, 1, 2), 2);
+        Check.due("degree(0, 0, 2), with itself", x.degree(0, 0, 2), 2);
+        Check.due("degree(0, 1, 2), with itself", x.degree(0, 1, 2), 2);
     }
 
     /** The pairs of the document, by joined and degree, for many populations. */

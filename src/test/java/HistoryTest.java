@@ -147,7 +147,7 @@ public final class HistoryTest {
         }
     }
 
-    /** adopt() needs another act before it, which is dropped from the history by undo() here. */
+    /** adopt() needs other populations held; the snapshot brings them, so that one act is still all. */
     private static int adoptAfterHold(LeastPopulations x) {
         x.hold(0, 1);
         x.keep();

@@ -37,6 +37,7 @@ public final class LeastTest {
         limits();
         families();
         alone();
+        slowly();
     }
 
     /** Up to 1000, and no more. */
@@ -110,6 +111,17 @@ public final class LeastTest {
         leastsAre(x, "six for seven", -4);
     }
 
+    /** By one object at a time, round and round through six classes, and to an end below 1000. */
+    private static void slowly() {
+        LeastPopulations x = Make.diagram(7, "2:15..*-0:20..20", "5:18..18-1:14..19", "6:20..20-0:8..19", "0:1..14-3:1..20");
+        int[] parents = {8, 8, 1, 2, 3, 4, 3};
+        for (int which = 0; which < 7; which++) {
+            x.setParent(which, parents[which]);
+        }
+        x.want(1, 3);
+        leastsAre(x, "slowly", 38, 760, 760, 760, 720, 720, 40);
+    }
+
     private static void promise20() {
         LeastPopulations x = Make.diagram(5, "0:0..2-1:3..*", "2:1..*-1:0..2");
         x.setParent(0, 3);
@@ -143,6 +155,16 @@ public final class LeastTest {
         Check.due("why(0), at least three", x.why(0), 3);
         x.setCounts(0, 0, 1, 99);
         Check.due("why(0), no limit asks for one", x.why(0), 1);
+        x = Make.diagram(3, "0:0..*-1:0..*", "2:7..*-1:0..*");
+        x.want(1, 2);
+        Check.due("why(2), at least seven", x.why(2), 7);
+        Check.due("least(2), at least seven", x.least(2), 7);
+        x = Make.classes(8);
+        x.want(7, 3);
+        Check.due("why(7)", x.why(7), 57);
+        x.setParent(6, 7);
+        x.want(6, 3);
+        Check.due("why(7), its child", x.why(7), 47);
         x = Make.diagram(2, "0:0..1-0:0..1", "0:1..1-1:1..1");
         x.want(0, 2);
         Check.due("why(1), the second link", x.why(1), 4);
@@ -172,6 +194,13 @@ public final class LeastTest {
         x.want(1, 5);
         Check.due("isForced(0), no most", x.isForced(0), 1);
         Check.due("isForced(1), its parent", x.isForced(1), 0);
+        x = Make.diagram(4, "0:0..1-1:20..*", "1:0..1-2:20..*", "2:0..1-3:2..*");
+        Check.due("isForced(0), one but not two", x.isForced(0), 0);
+        Check.due("count(3)", x.count(3), 0);
+        x.setCounts(2, 1, 3, 99);
+        Check.due("isForced(0), not one", x.isForced(0), 1);
+        Check.due("isForced(1)", x.isForced(1), 0);
+        Check.due("count(3)", x.count(3), 1);
     }
 
     private static void promise22() {
@@ -288,6 +317,14 @@ public final class LeastTest {
         x = Make.diagram(1, "0:0..*-0:20..*", "0:1..1-0:2..2");
         x.want(0, 1);
         repairs(x, "two ends of a link", 5, 6);
+        x = Make.diagram(2, "0:1..1-1:0..0", "0:0..0-1:1..1");
+        x.want(1, 1);
+        repairs(x, "a fault behind the fault", 0);
+        x.removeLink(1);
+        repairs(x, "the first count, and the last one", 0, 3);
+        x = Make.diagram(2, "0:0..0-1:1..1");
+        x.want(0, 1);
+        repairs(x, "the counts between", 1, 2);
         x = Make.classes(2);
         x.want(0, 99);
         Make.read(x, "0:0..1-1:11..*");
