@@ -60,16 +60,22 @@ public final class RandomRunsTest {
         return random.nextInt(limit);
     }
 
+    /** A number in the range from -2, or one of the farthest ones. */
+    private int odd(int range) {
+        int[] farthest = {Integer.MIN_VALUE, Integer.MAX_VALUE, 1 << 30, 3 << 30, Integer.MIN_VALUE / 3};
+        return below(4) == 0 ? farthest[below(farthest.length)] : below(range) - 2;
+    }
+
     private int which() {
-        return below(12) == 0 ? below(12) - 2 : below(Math.max(1, oracle.count(0)));
+        return below(12) == 0 ? odd(12) : below(Math.max(1, oracle.count(0)));
     }
 
     private int someLink() {
-        return below(12) == 0 ? below(14) - 2 : below(Math.max(1, oracle.count(1)));
+        return below(12) == 0 ? odd(14) : below(Math.max(1, oracle.count(1)));
     }
 
     private int end() {
-        return below(15) == 0 ? below(4) - 1 : below(2);
+        return below(15) == 0 ? odd(5) : below(2);
     }
 
     private int least() {
@@ -132,7 +138,7 @@ public final class RandomRunsTest {
             case 0:
                 return 0;
             case 1:
-                return below(1010) - 5;
+                return odd(1008);
             case 2:
                 return 1000;
             default:
@@ -169,7 +175,7 @@ public final class RandomRunsTest {
                 break;
             case 3:
             case 4:
-                int wanted = below(5) == 0 ? below(104) - 2 : below(4);
+                int wanted = below(5) == 0 ? odd(104) : below(4);
                 due("want(" + which + ", " + wanted + ")", x.want(which, wanted), oracle.want(which, wanted));
                 break;
             case 5:
@@ -209,15 +215,15 @@ public final class RandomRunsTest {
 
     private void setCounts(int link) {
         int end = end();
-        int least = below(10) == 0 ? below(25) - 2 : least();
-        int most = below(10) == 0 ? below(103) - 2 : most(Math.max(0, Math.min(20, least)));
+        int least = below(10) == 0 ? odd(25) : least();
+        int most = below(10) == 0 ? odd(103) : most(Math.max(0, Math.min(20, least)));
         due("setCounts(" + link + ", " + end + ", " + least + ", " + most + ")",
             x.setCounts(link, end, least, most), oracle.setCounts(link, end, least, most));
     }
 
     private int objectOf(int link, int end) {
         int held = oracle.classTold(oracle.link(link, end), 3);
-        return below(10) == 0 ? below(1005) - 2 : below(Math.max(1, held));
+        return below(10) == 0 ? odd(1005) : below(Math.max(1, held));
     }
 
     private void ask() {
@@ -226,11 +232,11 @@ public final class RandomRunsTest {
         int end = end();
         switch (below(18)) {
             case 0:
-                int what = below(7) - 1;
+                int what = below(9) == 0 ? odd(9) : below(5);
                 due("classTold(" + which + ", " + what + ")", x.classTold(which, what), oracle.classTold(which, what));
                 break;
             case 1:
-                int slot = below(8) - 1;
+                int slot = below(9) == 0 ? odd(10) : below(6);
                 due("link(" + link + ", " + slot + ")", x.link(link, slot), oracle.link(link, slot));
                 break;
             case 2:
@@ -253,11 +259,11 @@ public final class RandomRunsTest {
                 due("isIdle(" + link + ", " + end + ", " + most + ")", x.isIdle(link, end, most), oracle.isIdle(link, end, most));
                 break;
             case 8:
-                int rank = below(7) - 1;
+                int rank = below(6) == 0 ? odd(45) : below(7) - 1;
                 due("repair(" + rank + ")", x.repair(rank), oracle.repair(rank));
                 break;
             case 9:
-                int rule = below(5) == 0 ? below(62) - 2 : below(44);
+                int rule = below(5) == 0 ? odd(62) : below(44);
                 due("keeps(" + rule + ")", x.keeps(rule), oracle.keeps(rule));
                 break;
             case 10:
@@ -281,7 +287,7 @@ public final class RandomRunsTest {
                 dueFloat("share(" + which + ")", x.share(which), oracle.share(which));
                 break;
             default:
-                int number = below(11) - 1;
+                int number = below(9) == 0 ? odd(13) : below(9);
                 due("count(" + number + ")", x.count(number), oracle.count(number));
         }
     }
