@@ -1,7 +1,5 @@
 /** Promises 9, 10 and 25 to 30: populations that are held, and what is joined then. */
 public final class HeldTest {
-    private static final int MOST_CHECKED = 40;
-
     public static void main(String[] args) {
         promise9();
         promise10();
@@ -9,7 +7,6 @@ public final class HeldTest {
         promise26();
         rulesOfLinks();
         promise27();
-        allPairs();
         promise28();
         promise29();
         promise30();
@@ -208,51 +205,6 @@ public final class HeldTest {
         Check.due("degree(0, 1, 2), with itself", x.degree(0, 1, 2), 2);
     }
 
-    /** The pairs of the document, by joined and degree, for many populations. */
-    private static void allPairs() {
-        LeastPopulations x = null;
-        for (int run = 0; run < 1500; run++) {
-            if (run % 60 == 0) {
-                x = Make.diagram(2, "0:0..*-1:0..*");
-            }
-            int a = run * 7 % 23 % 13;
-            int b = run * 11 % 29 % 14;
-            x.hold(0, a);
-            x.hold(1, b);
-            x.setCounts(0, 0, Math.min(20, run % 5 * a / 4), 99);
-            x.setCounts(0, 1, Math.min(20, run % 7 * b / 6), 99);
-            pairsAre(x, a, b, run % 5 * a / 4, run % 7 * b / 6);
-        }
-    }
-
-    private static void pairsAre(LeastPopulations x, int a, int b, int low1, int low2) {
-        int pairs = Math.max(a * low2, b * low1);
-        boolean[][] joined = new boolean[MOST_CHECKED][MOST_CHECKED];
-        int round = 1;
-        while (a > 0 && b > 0 && (round % a != 0 || round % b != 0)) {
-            round++;
-        }
-        for (int pair = 0; pair < pairs && a > 0 && b > 0; pair++) {
-            joined[pair % a][(pair + pair / round) % b] = true;
-        }
-        int first = (a + 3 * b) % Math.max(1, a);
-        int second = (5 * a + b) % Math.max(1, b);
-        if (a == 0 || b == 0) {
-            Check.due("joined of none", x.joined(0, 0, 0), -1);
-            return;
-        }
-        int ofFirst = 0;
-        int ofSecond = 0;
-        for (int other = 0; other < MOST_CHECKED; other++) {
-            ofFirst += joined[first][other] ? 1 : 0;
-            ofSecond += joined[other][second] ? 1 : 0;
-        }
-        String told = a + " and " + b + ", counts " + low1 + " and " + low2 + ": ";
-        Check.due(told + "joined", x.joined(0, first, second), joined[first][second] ? 1 : 0);
-        Check.due(told + "degree(0, 0, " + first + ")", x.degree(0, 0, first), ofFirst);
-        Check.due(told + "degree(0, 1, " + second + ")", x.degree(0, 1, second), ofSecond);
-    }
-
     private static void promise28() {
         LeastPopulations x = Make.diagram(2, "0:2..*-1:1..9");
         Check.dueFloat("average(0, 0) of none", x.average(0, 0), 0.0f);
@@ -307,6 +259,35 @@ public final class HeldTest {
         x.setSize(0, 1);
         x.hold(0, 3);
         Check.dueFloat("cost() of the smallest", x.cost(), Float.intBitsToFloat(3));
+        largestCost();
+        eachOperationIsRounded();
+    }
+
+    private static void largestCost() {
+        LeastPopulations x = Make.classes(8);
+        for (int which = 0; which < 8; which++) {
+            x.setSize(which, 0x447A0000);
+            x.hold(which, 1000);
+        }
+        Check.dueFloat("cost() of the largest", x.cost(), 8000000.0f);
+        Check.dueFloat("share(7) of the largest", x.share(7), 0.125f);
+        x.setSize(7, 1);
+        Check.dueFloat("cost(), the smallest is lost", x.cost(), 7000000.0f);
+        Check.dueFloat("share(7), it is lost", x.share(7), 0.0f);
+    }
+
+    /** With doubles, with products that are not rounded, or in another order, the last bits differ. */
+    private static void eachOperationIsRounded() {
+        LeastPopulations x = Make.classes(4);
+        float[] sizes = {655.1f, 623.7f, 35.61f, 6.528f};
+        for (int which = 0; which < 4; which++) {
+            x.setSize(which, Float.floatToRawIntBits(sizes[which]));
+        }
+        Make.hold(x, 860, 631, 927, 622);
+        Check.dueFloat("cost(), rounded", x.cost(), Float.intBitsToFloat(1232252347));
+        Check.dueFloat("share(0), rounded", x.share(0), Float.intBitsToFloat(1058084991));
+        Check.dueFloat("share(1), rounded", x.share(1), Float.intBitsToFloat(1053472452));
+        Check.dueFloat("share(2), rounded", x.share(2), Float.intBitsToFloat(1023936131));
     }
 
     private static void promise30() {

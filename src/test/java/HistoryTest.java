@@ -4,6 +4,9 @@ public final class HistoryTest {
         promise13();
         promise14();
         promise15();
+        roundAndRound();
+        oneSnapshot();
+        whatIsGone();
         whatIsNoAct();
         whatIsRestored();
         Check.end("HistoryTest");
@@ -70,6 +73,89 @@ public final class HistoryTest {
         x.addClass();
         Check.due("restore() of no classes", x.restore(), 0);
         Check.due("count(0)", x.count(0), 0);
+    }
+
+    /** A history of at most 4 states: of many acts just the latest four come back, the latest one first. */
+    private static void roundAndRound() {
+        for (int acts = 0; acts < 15; acts++) {
+            LeastPopulations x = Make.classes(1);
+            for (int wanted = 1; wanted <= acts; wanted++) {
+                Check.due("want(0, " + wanted + ")", x.want(0, wanted), wanted - 1);
+            }
+            int kept = Math.min(4, acts + 1);
+            Check.due("count(7)", x.count(7), kept);
+            for (int back = 1; back <= Math.min(4, acts); back++) {
+                Check.due("undo()", x.undo(), kept - back);
+                Check.due("classTold(0, 1)", x.classTold(0, 1), acts - back);
+            }
+            if (acts < 4) {
+                Check.due("undo() of addClass()", x.undo(), 0);
+                Check.due("count(0)", x.count(0), 0);
+            }
+            Check.due("undo() of nothing", x.undo(), -5);
+            for (int wanted = 50; wanted < 53 && acts > 3; wanted++) {
+                x.want(0, wanted);
+            }
+            Check.due("count(7), filled again", x.count(7), acts > 3 ? 3 : 0);
+        }
+    }
+
+    /** There is one snapshot, empty at first, and it is no part of a state or of the history. */
+    private static void oneSnapshot() {
+        LeastPopulations x = new LeastPopulations();
+        Check.due("restore(), empty at first", x.restore(), -5);
+        x.addClass();
+        x.keep();
+        Check.due("undo(), behind keep()", x.undo(), 0);
+        Check.due("restore(), the snapshot is no state", x.restore(), 1);
+        x.addClass();
+        x.addClass();
+        x.keep();
+        x.restore();
+        x.undo();
+        x.undo();
+        Check.due("restore(), the latest one", x.restore(), 3);
+        for (int which = 0; which < 5; which++) {
+            x.want(0, which + 1);
+        }
+        Check.due("restore(), longer ago than the history", x.restore(), 3);
+        Check.due("classTold(0, 1)", x.classTold(0, 1), 0);
+        Check.due("undo() of restore()", x.undo(), 3);
+        Check.due("classTold(0, 1)", x.classTold(0, 1), 5);
+        Check.due("restore(), not of what was undone", x.restore(), 3);
+    }
+
+    /** Classes and links that were taken back are not counted, not summed up, and keep no rule. */
+    private static void whatIsGone() {
+        LeastPopulations x = Make.classes(1);
+        x.want(0, 2);
+        x.keep();
+        x.addClass();
+        Make.read(x, "0:0..1-1:2..*");
+        x.setCounts(0, 0, 0, 0);
+        x.setParent(0, 1);
+        x.hold(1, 7);
+        x.want(1, 9);
+        Check.due("least(0), all there", x.least(0), -4);
+        x.restore();
+        int[] counts = {1, 0, 2, 0, 50, 0, 0, 4, 13};
+        for (int what = 0; what < counts.length; what++) {
+            Check.due("gone: count(" + what + ")", x.count(what), counts[what]);
+        }
+        Check.due("gone: least(0)", x.least(0), 2);
+        Check.due("gone: repair(0)", x.repair(0), -4);
+        Check.due("gone: classTold(0, 0)", x.classTold(0, 0), -5);
+        Check.due("gone: classTold(0, 4)", x.classTold(0, 4), 0);
+        Check.due("gone: keeps(0)", x.keeps(0), -5);
+        Check.due("gone: keeps(41)", x.keeps(41), -5);
+        Check.due("gone: keeps(51)", x.keeps(51), -5);
+        Check.dueFloat("gone: cost()", x.cost(), 0.0f);
+        Check.due("gone: adopt()", x.adopt(), 2);
+        Check.due("gone: adopt() again", x.adopt(), -5);
+        x.undo();
+        x.undo();
+        Check.due("there again: classTold(1, 1)", x.classTold(1, 1), 9);
+        Check.due("there again: least(1)", x.least(1), -4);
     }
 
     /** What answers an error or NONE, and what only tells, leaves the history as it is. */

@@ -36,6 +36,12 @@ final class Make {
         }
     }
 
+    static void want(LeastPopulations x, int... wanted) {
+        for (int which = 0; which < wanted.length; which++) {
+            x.want(which, wanted[which]);
+        }
+    }
+
     static void hold(LeastPopulations x, int... populations) {
         for (int which = 0; which < populations.length; which++) {
             x.hold(which, populations[which]);
