@@ -51,19 +51,21 @@ public final class ClassesTest {
 
     /** A class has the values of a new one also where another class was before. */
     private static void addedAgain() {
-        LeastPopulations x = Make.classes(1);
-        x.keep();
-        x.addClass();
-        x.setParent(1, 0);
-        x.want(1, 3);
-        x.hold(1, 4);
-        x.setSize(1, LARGEST);
-        x.restore();
-        Check.due("addClass() where one was", x.addClass(), 1);
-        Check.due("its parent", x.classTold(1, 0), -5);
-        Check.due("its wanted number", x.classTold(1, 1), 0);
-        Check.due("its population", x.classTold(1, 3), 0);
-        Check.dueFloat("its size", x.size(1), 1.0f);
+        for (int parent = 0; parent < 3; parent++) {
+            LeastPopulations x = Make.classes(3);
+            x.keep();
+            x.addClass();
+            x.setParent(3, parent);
+            x.want(3, 3);
+            x.hold(3, 4);
+            x.setSize(3, LARGEST);
+            x.restore();
+            Check.due("addClass() where one was", x.addClass(), 3);
+            Check.due("its parent", x.classTold(3, 0), -5);
+            Check.due("its wanted number", x.classTold(3, 1), 0);
+            Check.due("its population", x.classTold(3, 3), 0);
+            Check.dueFloat("its size", x.size(3), 1.0f);
+        }
     }
 
     private static void promise3() {

@@ -115,7 +115,7 @@ public final class TextsTest {
             Check.due("type", x.type(next), length);
         }
         for (int more = 0; more < 3; more++) {
-            Check.due("type behind 60", x.type('0'), -3);
+            Check.due("type behind 60", x.type('y'), -3);
             Check.due("count(8)", x.count(8), 60);
         }
         Check.due("readLink()", x.readLink(), -114);
