@@ -37,6 +37,11 @@ public final class LeastPopulations {
     // each one stands, as bits
     private static final int[] RULES_WITH_COUNT = {10, 1, 5, 2};
 
+    // of the rules of a link, as bits: those that ask for more when its first class grows, and
+    // those that do so when its second class grows
+    private static final long RULES_THAT_LOOK_AT_FIRST = 5L;
+    private static final long RULES_THAT_LOOK_AT_SECOND = 10L;
+
     private static final int MOST_STATES = 4;
     private static final int MOST_CHARACTERS = 60;
     private static final int FAULT_AT_START = -100;
@@ -695,6 +700,23 @@ public final class LeastPopulations {
             return rule - (rule < RULES_OF_WANTS ? RULES_OF_PARENTS : RULES_OF_WANTS) < classes;
         }
 
+        /** The rules, as bits, whose number asked depends on the population of the class. */
+        long rulesThatLookAt(int which) {
+            long rules = 0L;
+            for (int link = 0; link < links; link++) {
+                if (rows[ROW * link + FIRST_CLASS] == which) {
+                    rules |= RULES_THAT_LOOK_AT_FIRST << (4 * link);
+                }
+                if (rows[ROW * link + SECOND_CLASS] == which) {
+                    rules |= RULES_THAT_LOOK_AT_SECOND << (4 * link);
+                }
+            }
+            if (parents[which] != NO_PARENT) {
+                rules |= 1L << (RULES_OF_PARENTS + parents[which]);
+            }
+            return rules;
+        }
+
         int classAsked(int rule) {
             if (rule >= RULES_OF_WANTS) {
                 return rule - RULES_OF_WANTS;
@@ -771,23 +793,25 @@ public final class LeastPopulations {
 
     /** The least populations of a diagram, when they have been sought. */
     private static final class Populations {
-        // in each round but the first one, a class spreads that has been given more before
+        // in each round but the first one, a rule is due because a class was given more before
         static final int MOST_ROUNDS = MOST_CLASSES * MOST_POPULATION + 1;
 
         final int[] people = new int[MOST_CLASSES];
         boolean exist = false;
-        // the rules that gave a class more, or asked for too many, as bits
+        // rules, as bits: those that gave a class more, or asked for too many
         long givers = 0L;
-        // the classes that have more than the rules were last told, as bits
-        int grown = 0;
+        // those that look at a class which has grown since they were asked
+        long due = 0L;
+        // of each class: those that look at it, and so can ask for more when it grows
+        final long[] lookers = new long[MOST_CLASSES];
 
         boolean find(Diagram diagram, int[] wants) {
             begin(diagram, wants);
-            for (int round = 0; round < MOST_ROUNDS && exist && grown != 0; round++) {
-                for (int which = 0; which < diagram.classes; which++) {
-                    if ((grown >> which & 1) != 0) {
-                        grown &= ~(1 << which);
-                        spread(diagram, which);
+            for (int round = 0; round < MOST_ROUNDS && exist && due != 0L; round++) {
+                for (int rule = 0; rule < RULES_OF_WANTS && due >> rule != 0L; rule++) {
+                    if ((due >> rule & 1L) != 0L) {
+                        due &= ~(1L << rule);
+                        ask(rule, diagram);
                     }
                 }
             }
@@ -797,33 +821,17 @@ public final class LeastPopulations {
         private void begin(Diagram diagram, int[] wants) {
             exist = true;
             givers = 0L;
-            grown = 0;
+            due = 0L;
             for (int which = 0; which < diagram.classes; which++) {
                 people[which] = wants[which];
+                lookers[which] = diagram.rulesThatLookAt(which);
                 if (people[which] > 0) {
-                    grown |= 1 << which;
+                    due |= lookers[which];
                 }
             }
         }
 
-        /** Only the rules that look at the population of the class can ask for more than before. */
-        private void spread(Diagram diagram, int which) {
-            for (int link = 0; link < diagram.links; link++) {
-                if (diagram.rows[ROW * link + FIRST_CLASS] == which) {
-                    give(4 * link, diagram);
-                    give(4 * link + 2, diagram);
-                }
-                if (diagram.rows[ROW * link + SECOND_CLASS] == which) {
-                    give(4 * link + 1, diagram);
-                    give(4 * link + 3, diagram);
-                }
-            }
-            if (diagram.parents[which] != NO_PARENT) {
-                give(RULES_OF_PARENTS + diagram.parents[which], diagram);
-            }
-        }
-
-        private void give(int rule, Diagram diagram) {
+        private void ask(int rule, Diagram diagram) {
             int which = diagram.classAsked(rule);
             int asked = diagram.numberAsked(rule, people);
             if (asked <= people[which]) {
@@ -835,7 +843,7 @@ public final class LeastPopulations {
                 return;
             }
             people[which] = asked;
-            grown |= 1 << which;
+            due |= lookers[which];
         }
 
         boolean areTheSame(int[] others, int classes) {

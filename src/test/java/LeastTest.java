@@ -8,6 +8,7 @@ public final class LeastTest {
         promise23();
         promise24();
         afterChanges();
+        afterNone();
         Check.end("LeastTest");
     }
 
@@ -97,6 +98,23 @@ public final class LeastTest {
         Check.due("990 objects", x.least(0), 990);
         x.setCounts(0, 1, 5, 99);
         Check.due("1089 objects", x.least(0), -4);
+        eachAsParent();
+    }
+
+    /** Each class can be the parent of all others, and the rule that asks is its own. */
+    private static void eachAsParent() {
+        for (int parent = 0; parent < 8; parent++) {
+            LeastPopulations x = Make.classes(8);
+            for (int which = 0; which < 8; which++) {
+                x.setParent(which, parent);
+                x.want(which, 10 + which);
+            }
+            x.want(parent, 0);
+            Check.due("least(" + parent + "), of seven", x.least(parent), 108 - 10 - parent);
+            Check.due("why(" + parent + "), of seven", x.why(parent), 40 + parent);
+            Check.due("oneMore, inside", x.oneMore(parent), 0);
+            Check.due("oneMore, of a child", x.oneMore(7 - parent), 1);
+        }
     }
 
     /** A link of a class with itself asks for as many as there are partners of as many as there are. */
@@ -373,5 +391,21 @@ public final class LeastTest {
         x.isIdle(0, 1, false);
         Check.due("least(1), asked much", x.least(1), 4);
         Check.due("oneMore(0), as before", x.oneMore(0), 3);
+    }
+
+    /** What a link asked for, when there were no least populations, is not asked for when it is removed. */
+    private static void afterNone() {
+        LeastPopulations x = Make.diagram(3, "1:0..*-2:5..*", "0:0..0-1:1..*");
+        x.want(0, 1);
+        leastsAre(x, "none", -4, -4, -4);
+        Check.due("oneMore(0), none", x.oneMore(0), -4);
+        Check.due("isForced(0), none", x.isForced(0), 1);
+        x.removeLink(1);
+        x.removeLink(0);
+        x.want(1, 1);
+        Check.due("isForced(1), no links", x.isForced(1), 0);
+        leastsAre(x, "no links", 1, 1, 0);
+        Check.due("oneMore(1), no links", x.oneMore(1), 1);
+        Check.due("count(2), no links", x.count(2), 2);
     }
 }
